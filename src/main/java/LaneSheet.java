@@ -107,7 +107,8 @@ public final class LaneSheet {
         code.forget();
         try {
             tokens.cut();
-            for (int turn = 0; turn == 0 || (turn < Tokens.MOST && !tokens.is(Tokens.END)); turn++) {
+            statements.readMacro();
+            for (int turn = 0; turn < Tokens.MOST && !tokens.is(Tokens.END); turn++) {
                 statements.readMacro();
             }
         } catch (IllegalStateException textFault) {
@@ -267,12 +268,14 @@ public final class LaneSheet {
         /** Of a finite number but 0: 53 bits, of which the highest is 1; times 2 to exponentOf it is the number. */
         static long significandOf(long x) {
             long fraction = x & FRACTION;
-            return field(x) != 0 ? fraction | HIDDEN : fraction << (Long.numberOfLeadingZeros(fraction) - 11);
+            boolean normal = (x & ~SIGN) >= HIDDEN;
+            return normal ? fraction | HIDDEN : fraction << (Long.numberOfLeadingZeros(fraction) - 11);
         }
 
         static int exponentOf(long x) {
-            int field = field(x);
-            return field != 0 ? field - UNIT : 1 - UNIT - (Long.numberOfLeadingZeros(x & FRACTION) - 11);
+            long size = x & ~SIGN;
+            boolean normal = size >= HIDDEN;
+            return (normal ? (int) (size >>> FRACTION_BITS) : 12 - Long.numberOfLeadingZeros(size)) - UNIT;
         }
 
         /**
@@ -401,7 +404,7 @@ public final class LaneSheet {
 
         /** The bits of a summand with nine behind them, shifted right; the lowest is 1 if anything was lost. */
         private static long placed(long x, int by) {
-            long bits = ((x & FRACTION) | (field(x) != 0 ? HIDDEN : 0)) << 9;
+            long bits = ((x & FRACTION) | ((x & ~SIGN) >= HIDDEN ? HIDDEN : 0)) << 9;
             if (by > 62) {
                 return bits != 0 ? 1 : 0;
             }
@@ -584,11 +587,6 @@ public final class LaneSheet {
         long high;
         long low;
 
-        void setProduct(long x, long y) {
-            high = Soft.highProduct(x, y);
-            low = x * y;
-        }
-
         void shiftLeft(int by) {
             if (by >= 64) {
                 high = low << (by - 64);
@@ -686,7 +684,7 @@ public final class LaneSheet {
             if (type == L) {
                 return whole(sign, x, y);
             }
-            // Floats go through doubles: these have more than twice their bits and two, so that nothing is rounded twice.
+            // Floats go through doubles: these have more than twice their bits, and two, so nothing is rounded twice.
             long a = convert(type, D, convert(left, type, x));
             long b = convert(type, D, convert(right, type, y));
             long answer;
@@ -858,7 +856,8 @@ public final class LaneSheet {
 
         /** All TYPES have their sign where the long has it. */
         private static long withSign(int type, long x, long y) {
-            return (x < 0) == (y < 0) ? x : negate(type, x);
+            long sign = type == F ? Soft.SINGLE_SIGN : Soft.SIGN;
+            return isNan(type, x) || (x < 0) == (y < 0) ? x : x ^ sign;
         }
 
         private long fused(long x, long y, long z) {
@@ -879,7 +878,8 @@ public final class LaneSheet {
         private long fusedFinite(long x, long y, long z) {
             int productUnit = Soft.exponentOf(x) + Soft.exponentOf(y) - 20;
             int summandUnit = Soft.exponentOf(z) - 72;
-            product.setProduct(Soft.significandOf(x), Soft.significandOf(y));
+            product.high = Soft.highProduct(Soft.significandOf(x), Soft.significandOf(y));
+            product.low = Soft.significandOf(x) * Soft.significandOf(y);
             product.shiftLeft(20);
             summand.high = Soft.significandOf(z) << 8;
             summand.low = 0;
@@ -1686,26 +1686,19 @@ public final class LaneSheet {
             code.emit(Code.CELL, (int) tokens.value, 0, 0);
             tokens.take();
             tokens.take(Tokens.IS);
-            code.emit(Code.IS, takeLaneOrBox(), 0, 0);
+            code.emit(Code.IS, takeKind(true), 0, 0);
             return T;
         }
 
-        private int takeLaneOrBox() {
-            if (!tokens.is(Tokens.LANE)) {
-                return takeBoxWord();
-            }
-            int lane = (int) tokens.value;
-            tokens.take();
-            return lane;
-        }
-
-        private int takeBoxWord() {
-            if (!tokens.isBetween(Tokens.FIRST_BOX, Tokens.LAST_BOX)) {
+        /** box, note or seal, or where lanes may stand one of these; as cell() tells it. */
+        private int takeKind(boolean orLane) {
+            boolean isLane = orLane && tokens.is(Tokens.LANE);
+            if (!isLane && !tokens.isBetween(Tokens.FIRST_BOX, Tokens.LAST_BOX)) {
                 tokens.refuse();
             }
-            int box = BOX + tokens.kind - Tokens.FIRST_BOX;
+            int kind = isLane ? (int) tokens.value : BOX + tokens.kind - Tokens.FIRST_BOX;
             tokens.take();
-            return box;
+            return kind;
         }
 
         private int readSum() {
@@ -1888,7 +1881,7 @@ public final class LaneSheet {
             }
             if (mayBeIs && tokens.is(Tokens.IS)) {
                 tokens.take();
-                code.emit(Code.IS, takeBoxWord(), 0, 0);
+                code.emit(Code.IS, takeKind(false), 0, 0);
                 isWasRead = true;
                 return T;
             }
@@ -1972,7 +1965,12 @@ public final class LaneSheet {
                     code.emitConstant(Heap.NOTHING);
                     return NO_THING;
                 case Tokens.CELL: return readNamed();
-                case Tokens.CLONE: return readClone();
+                case Tokens.CLONE:
+                    int word = tokens.take();
+                    int column = tokens.column();
+                    emitCell();
+                    code.emit(Code.CLONE, 0, 0, word);
+                    return knownOfColumn(column);
                 case Tokens.NEW: return readNew();
                 default: return readNewBox();
             }
@@ -1987,7 +1985,7 @@ public final class LaneSheet {
             int place = emitCell();
             if (column == COLUMN_K && tokens.is(Tokens.AS)) {
                 tokens.take();
-                int wanted = takeLaneOrBox();
+                int wanted = takeKind(true);
                 code.emit(Code.AS, wanted, 0, place);
                 return wanted >= BOX ? SOME_BOX : wanted;
             }
@@ -1996,14 +1994,6 @@ public final class LaneSheet {
                 code.emit(Code.READ, 0, 0, place);
                 return column == COLUMN_I ? ROW_D : SOME_BOX;
             }
-            return knownOfColumn(column);
-        }
-
-        private int readClone() {
-            int word = tokens.take();
-            int column = tokens.column();
-            emitCell();
-            code.emit(Code.CLONE, 0, 0, word);
             return knownOfColumn(column);
         }
 
@@ -2023,7 +2013,7 @@ public final class LaneSheet {
         }
 
         private int readNewBox() {
-            int kind = takeBoxWord();
+            int kind = takeKind(false);
             readFor(L);
             if (kind != BOX) {
                 tokens.take(',');
@@ -2219,11 +2209,6 @@ public final class LaneSheet {
             return true;
         }
 
-        private int readCondition() {
-            expressions.readFor(T);
-            return code.emit(Code.JUMP_IF_FALSE, 0, 0, 0);
-        }
-
         /** A chain of else if is a loop here: it may be longer than calls may go deep. */
         private boolean readIf() {
             boolean ends = false;
@@ -2231,7 +2216,8 @@ public final class LaneSheet {
             int exits = NONE;
             for (int turn = 0; turn < Tokens.MOST && more; turn++) {
                 tokens.take(Tokens.IF);
-                int past = readCondition();
+                expressions.readFor(T);
+                int past = code.emit(Code.JUMP_IF_FALSE, 0, 0, 0);
                 ends |= readBlock();
                 more = false;
                 if (tokens.is(Tokens.ELSE)) {
@@ -2262,7 +2248,8 @@ public final class LaneSheet {
         private boolean readWhile() {
             tokens.take();
             int head = code.emit(Code.STEP, 0, 0, 0);
-            int past = readCondition();
+            expressions.readFor(T);
+            int past = code.emit(Code.JUMP_IF_FALSE, 0, 0, 0);
             readBlock();
             code.emit(Code.JUMP, head, 0, 0);
             code.aimHere(past);
