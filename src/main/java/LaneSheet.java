@@ -1606,7 +1606,7 @@ public final class LaneSheet {
         }
 
         /** Reads an E that goes to what has this TYPE. */
-        void readFor(int wanted) {
+        private void readFor(int wanted) {
             int start = tokens.place;
             int type = readExpression();
             boolean fits = type == wanted || (type < wanted && wanted != T);
@@ -1616,7 +1616,7 @@ public final class LaneSheet {
             code.emitConversion(type, wanted);
         }
 
-        int readExpression() {
+        private int readExpression() {
             int left = readConjunction();
             for (int turn = 0; turn < Tokens.MOST && tokens.is(Tokens.OR); turn++) {
                 int sign = tokens.take();
@@ -1792,7 +1792,7 @@ public final class LaneSheet {
         }
 
         /** At a NAME with a ( behind it; the macro's TYPE. */
-        int readCall(boolean inExpression) {
+        private int readCall(boolean inExpression) {
             int macro = code.findMacro(tokens.value);
             if (macro == NONE) {
                 return tokens.fail(Tokens.BAD_NAME, tokens.place);
@@ -1855,7 +1855,7 @@ public final class LaneSheet {
         }
 
         /** [ E ] behind the cell or element that was put on the stack; the element is there afterwards. */
-        void readIndex() {
+        private void readIndex() {
             tokens.open('[');
             readFor(I);
             tokens.take(']');
@@ -1865,10 +1865,11 @@ public final class LaneSheet {
         private int readElement() {
             boolean mayBeIs = tokens.next == comparisonStart;
             int column = tokens.column();
+            int place = emitCell();
             if (column == COLUMN_K) {
+                // What may stand behind a K was read ahead of this.
                 return tokens.refuse();
             }
-            int place = emitCell();
             readIndex();
             code.emit(Code.READ, 0, 0, place);
             if (column == COLUMN_I) {
@@ -1946,7 +1947,7 @@ public final class LaneSheet {
         }
 
         /** Reads a THING that goes to a cell of this column (of D: to an element of an I), or where boxes may. */
-        void readThing(int goal) {
+        private void readThing(int goal) {
             int start = tokens.place;
             int thing = readAnyThing();
             boolean fits = thing == NO_THING || goal == COLUMN_K || thing == goal + 1
@@ -1983,13 +1984,20 @@ public final class LaneSheet {
         private int readNamed() {
             int column = tokens.column();
             int place = emitCell();
-            if (column == COLUMN_K && tokens.is(Tokens.AS)) {
+            boolean mayHaveIndex = column == COLUMN_I || column == COLUMN_J;
+            // These are looked at ahead of what the cell itself may go to.
+            boolean wrong = tokens.is(Tokens.IS) || (tokens.is(Tokens.AS) && column != COLUMN_K)
+                || (tokens.is('[') && !mayHaveIndex);
+            if (wrong) {
+                tokens.refuse();
+            }
+            if (tokens.is(Tokens.AS)) {
                 tokens.take();
                 int wanted = takeKind(true);
                 code.emit(Code.AS, wanted, 0, place);
                 return wanted >= BOX ? SOME_BOX : wanted;
             }
-            if ((column == COLUMN_I || column == COLUMN_J) && tokens.is('[')) {
+            if (tokens.is('[')) {
                 readIndex();
                 code.emit(Code.READ, 0, 0, place);
                 return column == COLUMN_I ? ROW_D : SOME_BOX;

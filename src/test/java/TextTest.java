@@ -281,9 +281,11 @@ public final class TextTest {
         fault(SYNTAX, "print K0 ^[1];");
         fault(SYNTAX, "print K0 ^+ 1;");
         fault(SYNTAX, "print K0 ^as A;");
-        fault(SYNTAX, "print 1 + ^K0 is A;");
-        fault(SYNTAX, "print b == ^K0 is A;");
-        fault(SYNTAX, "print - ^K0 is A;");
+        fault(SYNTAX, "print 1 + K0 ^is A;");
+        fault(SYNTAX, "print 1 + K0 ^[1];");
+        fault(SYNTAX, "print b and 2 * K0 ^;");
+        fault(SYNTAX, "print b == K0 ^is A;");
+        fault(SYNTAX, "print - K0 ^is A;");
         fault(SYNTAX, "print K0 is ^K0;");
         fault(SYNTAX, "print K0 is ^none;");
         fault(SYNTAX, "print K0 is A ^== b;");
@@ -539,7 +541,10 @@ public final class TextTest {
 
     private static void typesOfThings() {
         fault(TYPE, "A0 = ^B0;");
-        fault(TYPE, "A0 = ^B0 [");
+        fault(TYPE, "A0 = ^B0 5;");
+        fault(SYNTAX, "A0 = B0 ^[");
+        fault(SYNTAX, "A0 = B0 ^as A;");
+        fault(SYNTAX, "A0 = K0 ^[1];");
         fault(TYPE, "A0 = ^K0;");
         fault(TYPE, "A0 = ^clone K0;");
         fault(TYPE, "A0 = ^clone B0;");
