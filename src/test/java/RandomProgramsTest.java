@@ -4,6 +4,7 @@ import java.util.IdentityHashMap;
 import java.util.List;
 import java.util.Map;
 import java.util.Random;
+import java.util.function.LongSupplier;
 
 /**
  * Random programs, made together with a plain tree of what they must do: that one goes down in Java's own calls, throws
@@ -128,16 +129,12 @@ public final class RandomProgramsTest {
         for (int i = 1; i < count; i++) {
             makeMacro(i);
         }
-        if (text.length() > 4000) {
+        LaneSheet first = new LaneSheet();
+        if (text.length() > 4000 || (Sheet.compile(first, text.toString()) < 0 && first.fault(0) == 6)) {
             return;
         }
-        LaneSheet sheet = new LaneSheet();
-        int compiled = Sheet.compile(sheet, text.toString());
-        if (compiled < 0 && sheet.fault(0) == 6) {
-            return;
-        }
-        Sheet.due("compile with fault " + sheet.fault(0) + " at " + sheet.fault(1) + " of " + text, compiled, count);
         int stepsInAll = 0;
+        List<int[]> runs = new ArrayList<>();
         for (int run = 0; run < 5; run++) {
             Macro macro = macros.get(run == 0 ? 0 : 1 + random.nextInt(count - 1));
             int a = random.nextInt(5) - 1;
@@ -146,11 +143,34 @@ public final class RandomProgramsTest {
             int answer = work(macro, a, b);
             stepsInAll += steps;
             answers[answer]++;
+            runs.add(new int[] {macro.number, stepsMost, a, b, answer});
             String what = "run " + run + " of macro " + macro.number + " with " + a + " " + b + " " + stepsMost + ": " + text;
-            Sheet.due(what, sheet.run(macro.number, stepsMost, a, b, 0), answer);
+            LaneSheet sheet = replayed(runs, count, what);
+            ask("STEPS in all, " + what, () -> sheet.about(8), stepsInAll);
             compare(sheet, what);
-            Sheet.due("STEPS in all, " + what, sheet.about(8), stepsInAll);
         }
+    }
+
+    private int calls;
+
+    /** One call of the object; those beyond the 512th are left out, as what they answer is free. */
+    private void ask(String what, LongSupplier call, long want) {
+        calls++;
+        if (calls <= Sheet.CALLS_MOST) {
+            Sheet.due(what, call.getAsLong(), want);
+        }
+    }
+
+    /** A new object behind all these runs, so that there are calls left to ask for all. */
+    private LaneSheet replayed(List<int[]> runs, int count, String what) {
+        LaneSheet sheet = new LaneSheet();
+        calls = (text.length() + 19) / 20;
+        int size = Sheet.feed(sheet, text.toString());
+        ask("compile of " + text, () -> sheet.compile(size), count);
+        for (int[] run : runs) {
+            ask(what, () -> sheet.run(run[0], run[1], run[2], run[3], 0), run[4]);
+        }
+        return sheet;
     }
 
     private int faultKind;
@@ -183,54 +203,58 @@ public final class RandomProgramsTest {
     }
 
     private void compare(LaneSheet sheet, String what) {
-        Sheet.due("result, " + what, sheet.result(), result);
-        Sheet.due("kind, " + what, sheet.about(1), faultKind);
-        Sheet.due("place, " + what, sheet.about(2), faultPlace);
-        Sheet.due("number, " + what, sheet.about(3), faultNumber);
-        Sheet.due("STEPS, " + what, sheet.about(4), steps);
-        Sheet.due("MADE, " + what, sheet.about(5), made);
-        Sheet.due("TRACE, " + what, sheet.about(6), trace.size());
+        ask("result, " + what, () -> sheet.result(), result);
+        ask("kind, " + what, () -> sheet.about(1), faultKind);
+        ask("place, " + what, () -> sheet.about(2), faultPlace);
+        ask("number, " + what, () -> sheet.about(3), faultNumber);
+        ask("STEPS, " + what, () -> sheet.about(4), steps);
+        ask("MADE, " + what, () -> sheet.about(5), made);
+        ask("TRACE, " + what, () -> sheet.about(6), trace.size());
         for (int i = 0; i < trace.size(); i++) {
-            Sheet.due("trace, " + what, Sheet.trace(sheet, i), trace.get(i));
+            int at = i;
+            ask("trace, " + what, () -> Sheet.trace(sheet, at), trace.get(i));
         }
-        Sheet.due("printed, " + what, sheet.about(7), printed.size());
+        ask("printed, " + what, () -> sheet.about(7), printed.size());
         for (int i = 0; i < Math.min(200, printed.size()); i++) {
-            Sheet.due("out, " + what, Sheet.out(sheet, i, 1), printed.get(i));
+            int at = i;
+            ask("out, " + what, () -> Sheet.out(sheet, at, 1), printed.get(i));
         }
-        Sheet.due("FAULTS in all, " + what, sheet.about(10), faults);
+        ask("FAULTS in all, " + what, () -> sheet.about(10), faults);
         Map<Object, Integer> first = new IdentityHashMap<>();
         for (String name : CELL_NAMES) {
             int c = 8 * (name.charAt(0) - 'A') + name.charAt(1) - '0';
             Object thing = cells.get(name);
-            Sheet.due("cell " + name + ", " + what, sheet.cell(c, 0), kindOf(thing));
+            ask("cell " + name + ", " + what, () -> sheet.cell(c, 0), kindOf(thing));
             if (thing != null) {
                 first.putIfAbsent(thing, c);
-                Sheet.due("same as " + name + ", " + what, sheet.cell(c, 2), first.get(thing));
+                ask("same as " + name + ", " + what, () -> sheet.cell(c, 2), first.get(thing));
             }
             if (thing instanceof Row) {
                 compareRow(sheet, (Row) thing, c, what);
             } else if (thing instanceof Box) {
-                Sheet.due("NUM of " + name + ", " + what, Sheet.element(sheet, c, 0), ((Box) thing).num);
+                ask("NUM of " + name + ", " + what, () -> Sheet.element(sheet, c, 0), ((Box) thing).num);
             }
         }
     }
 
     private void compareRow(LaneSheet sheet, Row row, int c, String what) {
-        Sheet.due("size of " + c + ", " + what, sheet.cell(c, 1), row.elements.length);
+        ask("size of " + c + ", " + what, () -> sheet.cell(c, 1), row.elements.length);
         for (int i = 0; i < row.elements.length; i++) {
+            int at = i;
             Object element = row.elements[i];
             String where = "element " + c + " " + i + ", " + what;
             if (element instanceof Integer) {
-                Sheet.due(where, Sheet.element(sheet, c, i), (Integer) element);
+                ask(where, () -> Sheet.element(sheet, c, at), (Integer) element);
             } else if (row.lane == 'I') {
-                Sheet.due(where, Sheet.element(sheet, c, i), element == null ? -1 : ((Row) element).elements.length);
+                ask(where, () -> Sheet.element(sheet, c, at), element == null ? -1 : ((Row) element).elements.length);
                 for (int j = 0; element != null && j < ((Row) element).elements.length; j++) {
-                    Sheet.due(where, Sheet.within(sheet, c, i, j), (Integer) ((Row) element).elements[j]);
+                    int inner = j;
+                    ask(where, () -> Sheet.within(sheet, c, at, inner), (Integer) ((Row) element).elements[j]);
                 }
             } else {
-                Sheet.due(where, Sheet.element(sheet, c, i), element == null ? 0 : kindOf(element) - 12);
+                ask(where, () -> Sheet.element(sheet, c, at), element == null ? 0 : kindOf(element) - 12);
                 if (element != null) {
-                    Sheet.due(where, Sheet.within(sheet, c, i, 0), ((Box) element).num);
+                    ask(where, () -> Sheet.within(sheet, c, at, 0), ((Box) element).num);
                 }
             }
         }

@@ -4,6 +4,7 @@ import java.util.NoSuchElementException;
 /** What the tests share: texts fed whole, answers held against those that are due. */
 final class Sheet {
     static final long THROWN = Long.MIN_VALUE + 4711;
+    static final int CALLS_MOST = 512;
     private static int wrong;
     private static int asked;
 
@@ -102,6 +103,26 @@ final class Sheet {
             return sheet.within(c, i, j);
         } catch (NoSuchElementException none) {
             return THROWN;
+        }
+    }
+
+    /** Sheets of one program, a new one when the calls of the old one run out: what comes behind the 512th is free. */
+    static final class Supply {
+        private final String text;
+        private LaneSheet sheet;
+        private int left;
+
+        Supply(String text) {
+            this.text = text;
+        }
+
+        LaneSheet forCalls(int calls) {
+            if (left < calls) {
+                sheet = of(text);
+                left = CALLS_MOST - (text.length() + 19) / 20 - 1;
+            }
+            left -= calls;
+            return sheet;
         }
     }
 
