@@ -49,6 +49,7 @@ public final class EdgesOfNumbersTest {
         exponents();
         signs();
         fused();
+        fusedHalves();
         scaled();
         bitsAndReal();
         settled();
@@ -843,6 +844,32 @@ public final class EdgesOfNumbersTest {
         d("fma(" + DMIN + ", " + DMIN + ", 1)", 1.0);
         d("fma(- " + DMIN + ", " + DMIN + ", 1)", 1.0);
         d("fma(" + DMIN + ", " + DMIN + ", " + bits(1 + 0x1p-52) + ")", 1 + 0x1p-52);
+    }
+
+    /** The product lies on a half, or just beside one, and a summand of any size tells to which side it goes. */
+    private static void fusedHalves() {
+        String half = bits(1 + 0x1p-52) + ", 1.5, ";
+        double below = 1.5 + 0x1p-52;
+        double above = 1.5 + 0x1p-51;
+        d("fma(" + half + "0)", above);
+        d("fma(" + half + "- 0.0)", above);
+        for (int exponent : new int[] {-54, -60, -63, -64, -65, -72, -100, -104, -120, -123, -124, -125, -126, -127, -128, -129, -130,
+            -200, -1000, -1022, -1074}) {
+            double tiny = Math.scalb(1.0, exponent);
+            d("fma(" + half + bits(tiny) + ")", above);
+            d("fma(" + half + bits(-tiny) + ")", below);
+            d("fma(" + bits(-1 - 0x1p-52) + ", 1.5, " + bits(tiny) + ")", -below);
+            d("fma(" + bits(-1 - 0x1p-52) + ", 1.5, " + bits(-tiny) + ")", -above);
+        }
+        // 1 + 2 to -78, exactly.
+        String more = bits(1 + 0x1p-26) + ", " + bits(1 - 0x1p-26 + 0x1p-52);
+        d("fma(" + more + ", 0)", 1.0);
+        d("fma(" + more + ", - 1)", 0x1p-78);
+        d("fma(" + more + ", " + bits(0x1p53) + ")", 0x1p53 + 2);
+        d("fma(1, 1, " + bits(0x1p53) + ")", 0x1p53);
+        d("fma(- " + more + ", " + bits(0x1p53 + 4) + ")", 0x1p53 + 2);
+        d("fma(- 1, 1, " + bits(0x1p53 + 4) + ")", 0x1p53 + 4);
+        d("fma(" + more + ", " + bits(-0x1p53) + ")", -0x1p53 + 1);
     }
 
     /** a times 2 to n, rounded once. */

@@ -156,6 +156,12 @@ public final class EdgesOfTextTest {
             }
         }
         fine("A0=none;K7=none;A0=A1;K7=A0;");
+        for (char column : "ABCDEFGHIJNS".toCharArray()) {
+            fault(SYNTAX, "K7 = new " + column + "^/2;");
+            fault(SYNTAX, "print K7 is " + column + "^/2;");
+        }
+        fault(TOKEN, "K7 = new ^K/2;");
+        fault(TOKEN, "K7 = new A^:2;");
         fault(SYNTAX, "K7 = A0^7;");
         fault(SYNTAX, "K7 = A0^x;");
         fault(SYNTAX, "K7 = A0^A0;");
@@ -272,6 +278,8 @@ public final class EdgesOfTextTest {
         Sheet.fault(MANY, most + "   ^macro n(){}");
         Sheet.fault(MANY, "macro m(n i){" + fill + ";^}");
         Sheet.fault(SYNTAX, "macro m(n i){" + fill + "^;");
+        Sheet.fault(SYNTAX, "macro m(n i){" + fill + "n^");
+        Sheet.fault(SYNTAX, "macro m(n i){" + fill + "n   ^");
         Sheet.fault(SYNTAX, "^" + ";".repeat(2000) + " ".repeat(2000));
         Sheet.fault(MANY, ";".repeat(2000) + "^" + ";".repeat(2000));
         // What is cut goes ahead of what is read.
@@ -520,7 +528,16 @@ public final class EdgesOfTextTest {
         fine("print " + "(1) + ".repeat(40) + "1;");
         fine("print " + "- 1 * ".repeat(40) + "1;");
         fine("print " + "not b and ".repeat(40) + "b;");
-        fine("print " + "A0[1] + ".repeat(40) + "1;");
+        for (String each : new String[] {"A0[1]", "I0[1][2]", "J0[1].num", "size I0[1]", "worth(box 1)", "abs(1)", "fma(1, 1, 1)", "(1)",
+            "min(1, 2)", "- 1", "int(J0[1].mark)"}) {
+            fine("print " + (each + " + ").repeat(30) + "1;");
+        }
+        for (String each : new String[] {"same(A0, A1)", "J0[1] is box", "K0 is box", "same(I0[1], J0[1])", "nans(1.0)", "not (b)",
+            "not not b", "same(box A0[1], none)"}) {
+            fine("print " + (each + " and ").repeat(30) + "b;");
+        }
+        Sheet.fine("macro g(n i) i { " + "g(1); A0[1] = 1; J0[1].num = 1; I0[1] = D0; K0 = J0[1]; ".repeat(13) + "return "
+            + "g(1) + ".repeat(30) + "1; }");
         fine("print - (- (- (- (- (- 1))))) + - (- (- (- (- (- 1)))));");
         fine("print - (- (- (- (- (- (1))))));");
         fault(MANY, "print - (- (- (- (- (- (^- 1");
@@ -813,7 +830,12 @@ public final class EdgesOfTextTest {
         Sheet.fault(TYPE, "macro m() i { try { } on any { return 1; } ^}");
         Sheet.fault(TYPE, "macro m() i { try { return 1; } on any { } always { } ^}");
         Sheet.fault(TYPE, "macro m() i { try { } always { print 1; } ^}");
-        Sheet.fault(TYPE, "macro m() i { m(); ^}");
+        for (String last : new String[] {"m();", "let q = 1;", "n = 1;", "A0 = none;", "A0[0] = 1;", "I0[0] = none;", "I0[0][0] = 1;",
+            "J0[0] = none;", "J0[0].num = 1;", "copy A0, 0, A0, 0, 0;", "print 1;", "while n == 1 { }", "if n == 1 { }", "undo { }",
+            "try { } on any { }"}) {
+            Sheet.fault(TYPE, "macro m() i { let n = 1; return 1; " + last + " ^}");
+            Sheet.fine("macro m() i { let n = 1; " + last + " return 1; }");
+        }
     }
 
     /** 2 SYNTAX: so [ behind a K, is or as behind a cell that they are not told of. */

@@ -5,6 +5,7 @@ import java.util.NoSuchElementException;
 final class Sheet {
     static final long THROWN = Long.MIN_VALUE + 4711;
     static final int CALLS_MOST = 512;
+    private static final int OWN = 7;
     private static int wrong;
     private static int asked;
 
@@ -159,6 +160,9 @@ final class Sheet {
         due("run of " + marked, sheet.run(0, 5000, 0, 0, 0), 1);
         due("kind of " + marked, sheet.about(1), kind);
         due("place of " + marked, sheet.about(2), place);
+        if (kind != OWN) {
+            due("number of " + marked, sheet.about(3), 0);
+        }
         return sheet;
     }
 }
